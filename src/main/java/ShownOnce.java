@@ -30,7 +30,7 @@ public final class ShownOnce {
     private int doingCount = 0;
     private final Program[] programs = new Program[MOST_KEPT];
     private int programCount = 0;
-    private final TextReader reader = new TextReader();
+    private final TextReader reader = new TextReader(tape);
     private final Sheet[] sheets = new Sheet[SHEETS];
 
     public ShownOnce() {
@@ -66,20 +66,9 @@ public final class ShownOnce {
     }
 
     public int thing() {
-        int size = tape.size;
+        int answer = tape.size < 1 || tape.size > LINE_BYTES ? NOT : addThing(tape);
         tape.clear();
-        if (size < 1 || size > LINE_BYTES) {
-            return NOT;
-        }
-        if (thingCount >= MOST_THINGS) {
-            return FULL;
-        }
-        Row line = things[thingCount].line;
-        line.clear();
-        for (int i = 0; i < size; i++) {
-            line.add(tape.bytes[i]);
-        }
-        return addThing();
+        return answer;
     }
 
     public int line(int sheet, int lane, int from, int n) {
@@ -94,20 +83,14 @@ public final class ShownOnce {
         if (!s.holds(from, n)) {
             return INDEX;
         }
-        for (int i = 0; i < n; i++) {
-            if (!isLineByte(s.items[from + i])) {
+        scratch.clear();
+        for (int i = from; i < from + n; i++) {
+            if (!isLineByte(s.items[i])) {
                 return NOT;
             }
+            scratch.add(s.items[i]);
         }
-        if (thingCount >= MOST_THINGS) {
-            return FULL;
-        }
-        Row line = things[thingCount].line;
-        line.clear();
-        for (int i = 0; i < n; i++) {
-            line.add(s.items[from + i]);
-        }
-        return addThing();
+        return addThing(scratch);
     }
 
     public int byteAt(int thing, int i) {
@@ -136,23 +119,9 @@ public final class ShownOnce {
         if (!isThing(thing)) {
             return BAD;
         }
-        int size = tape.size;
+        int answer = showTapeOf(things[thing]);
         tape.clear();
-        if (size < 1 || size > SHOWN_BYTES) {
-            return NOT;
-        }
-        Thing x = things[thing];
-        if (x.state != SHOWN && howMany(SHOWN) >= MOST_SHOWN) {
-            return FULL;
-        }
-        x.end.clear();
-        for (int i = 0; i < size; i++) {
-            x.end.add(tape.bytes[i]);
-        }
-        x.state = SHOWN;
-        x.compareSpans();
-        showingChanged();
-        return howMany(SHOWN);
+        return answer;
     }
 
     public int forget(int thing) {
@@ -346,7 +315,7 @@ public final class ShownOnce {
     }
 
     public int text() {
-        int faultAt = reader.read(tape);
+        int faultAt = reader.read();
         tape.clear();
         return faultAt >= 0 ? FAULT - faultAt : keepProgram(reader.program);
     }
@@ -471,10 +440,29 @@ public final class ShownOnce {
         return (int) (w >>> 8 * i) & 255;
     }
 
-    private int addThing() {
-        things[thingCount].findPlaces();
+    private int addThing(Row line) {
+        if (thingCount >= MOST_THINGS) {
+            return FULL;
+        }
+        Thing x = things[thingCount];
+        x.line.copyOf(line);
+        x.findPlaces();
         thingCount++;
         return thingCount - 1;
+    }
+
+    private int showTapeOf(Thing x) {
+        if (tape.size < 1 || tape.size > SHOWN_BYTES) {
+            return NOT;
+        }
+        if (x.state != SHOWN && howMany(SHOWN) >= MOST_SHOWN) {
+            return FULL;
+        }
+        x.end.copyOf(tape);
+        x.state = SHOWN;
+        x.compareSpans();
+        showingChanged();
+        return howMany(SHOWN);
     }
 
     private int howMany(int state) {
@@ -1255,12 +1243,15 @@ public final class ShownOnce {
         private static final String KIND_SIGNS = "dwcs", WHICH_SIGNS = "12z";
 
         final Program program = new Program();
-        private Row tape = null;
+        private final Row tape;
         private int at = 0;
 
+        TextReader(Row tape) {
+            this.tape = tape;
+        }
+
         /** The place of the first byte that can't stand there, or -1. */
-        int read(Row from) {
-            tape = from;
+        int read() {
             at = 0;
             program.clear();
             for (int i = 0; i < 3; i++) {

@@ -50,6 +50,14 @@ final class Check {
         return w;
     }
 
+    static ShownOnce with(String... lines) {
+        ShownOnce x = new ShownOnce();
+        for (String line : lines) {
+            thingOf(x, line);
+        }
+        return x;
+    }
+
     static int thingOf(ShownOnce x, String line) {
         typeAll(x, line);
         return x.thing();

@@ -19,17 +19,9 @@ public final class DoingTest {
         check.close("DoingTest");
     }
 
-    private static ShownOnce with(String... lines) {
-        ShownOnce x = new ShownOnce();
-        for (String line : lines) {
-            Check.thingOf(x, line);
-        }
-        return x;
-    }
-
     /** Two are shown; of the others 2 and 4 are like them, 3 and 5 are odd. */
     private static ShownOnce shownTwo() {
-        ShownOnce x = with("7", "8", "42", "a", "9", "-");
+        ShownOnce x = Check.with("7", "8", "42", "a", "9", "-");
         Check.showOf(x, 0, "7");
         Check.showOf(x, 1, "8");
         return x;
@@ -145,7 +137,7 @@ public final class DoingTest {
         x.forget(0);
         x.forget(1);
         check.due("nothing shown", x.otherwise(), ShownOnce.NOT);
-        ShownOnce y = with("a1", "b2", "cc", "dd4", "E5");
+        ShownOnce y = Check.with("a1", "b2", "cc", "dd4", "E5");
         Check.showOf(y, 0, "a");
         Check.showOf(y, 1, "b");
         check.due("the first bytes", y.doing(2), 2);
@@ -158,7 +150,7 @@ public final class DoingTest {
     }
 
     private static void keep() {
-        ShownOnce x = with("7", "8");
+        ShownOnce x = Check.with("7", "8");
         check.due("nothing shown", x.keep(), ShownOnce.NOT);
         Check.showOf(x, 0, "7");
         check.due("kept", x.keep(), 0);
@@ -302,7 +294,7 @@ public final class DoingTest {
     }
 
     private static void run() {
-        ShownOnce x = with("Ann Lee 12", "0123456789abcdef", "-");
+        ShownOnce x = Check.with("Ann Lee 12", "0123456789abcdef", "-");
         Check.textOf(x, "bw2,aw2u+\", \"+bw1,f1");
         Check.textOf(x, "f0,e0+\"---\"+f0,e0");
         check.due("turned about", Check.spell(i -> x.run(0, 0, i)), "LEE, A");

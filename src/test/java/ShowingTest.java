@@ -17,16 +17,8 @@ public final class ShowingTest {
         check.close("ShowingTest");
     }
 
-    private static ShownOnce with(String... lines) {
-        ShownOnce x = new ShownOnce();
-        for (String line : lines) {
-            Check.thingOf(x, line);
-        }
-        return x;
-    }
-
     private static void show() {
-        ShownOnce x = with("1", "2", "3", "4", "5");
+        ShownOnce x = Check.with("1", "2", "3", "4", "5");
         check.due("empty tape", x.show(0), ShownOnce.NOT);
         check.due("13 bytes", Check.showOf(x, 0, "thirteen byte"), ShownOnce.NOT);
         check.due("the tape is empty behind not", x.type('7', 1), 1);
@@ -50,7 +42,7 @@ public final class ShowingTest {
     }
 
     private static void forget() {
-        ShownOnce x = with("1", "2");
+        ShownOnce x = Check.with("1", "2");
         check.due("not shown", x.forget(0), ShownOnce.NOT);
         check.due("thing 2", x.forget(2), ShownOnce.BAD);
         check.due("thing -1", x.forget(-1), ShownOnce.BAD);
@@ -74,7 +66,7 @@ public final class ShowingTest {
     }
 
     private static void fitting() {
-        ShownOnce x = with("7", "8");
+        ShownOnce x = Check.with("7", "8");
         check.due("n -1", x.fitting(-1), ShownOnce.BAD);
         check.due("n 4", x.fitting(4), ShownOnce.BAD);
         check.due("nothing shown", x.fitting(3), ShownOnce.NOT);
@@ -98,12 +90,12 @@ public final class ShowingTest {
         counts(x, "typed alone", 1, 2, 1);
         Check.showOf(x, 1, "ab");
         counts(x, "a beginning of the other", 0, 0, 0);
-        ShownOnce y = with("q");
+        ShownOnce y = Check.with("q");
         Check.showOf(y, 0, "123456789");
         counts(y, "nine typed", 0, 0, 1);
         Check.showOf(y, 0, "1234567890");
         counts(y, "ten typed", 0, 0, 0);
-        ShownOnce z = with("aaaaaaaaaaaaaaaa");
+        ShownOnce z = Check.with("aaaaaaaaaaaaaaaa");
         Check.showOf(z, 0, "aaaaaaaaaaaa");
         long[] listed = NaiveModel.fitsOf(java.util.List.of("aaaaaaaaaaaaaaaa"), java.util.List.of("aaaaaaaaaaaa")).counts;
         counts(z, "as many as listed", listed[1], listed[2], listed[3]);
@@ -118,7 +110,7 @@ public final class ShowingTest {
     }
 
     private static void shortest() {
-        ShownOnce x = with("7", "8");
+        ShownOnce x = Check.with("7", "8");
         check.due("what -1", x.shortest(-1), ShownOnce.BAD);
         check.due("what 5", x.shortest(5), ShownOnce.BAD);
         check.due("nothing shown", x.shortest(4), ShownOnce.NOT);
@@ -132,28 +124,28 @@ public final class ShowingTest {
     }
 
     private static void order() {
-        ShownOnce x = with("ab12", "cd34");
+        ShownOnce x = Check.with("ab12", "cd34");
         Check.showOf(x, 0, "AB");
         Check.showOf(x, 1, "CD");
         program(x, "the least number", 5, 3 * 2 + 1);
         Check.showOf(x, 0, "ab12-ab");
         Check.showOf(x, 1, "cd34-cd");
         program(x, "three pieces", 11, 3 * 4, TYPED + '-', 3 * 2);
-        ShownOnce y = with("ab");
+        ShownOnce y = Check.with("ab");
         Check.showOf(y, 0, "ab");
         program(y, "of one cost a cut goes ahead of a typed one", 4, 3 * 2);
         Check.showOf(y, 0, "ab!");
         program(y, "of one cost one piece goes ahead of two", 5, 3 * TYPED + ('a' << 16) + ('b' << 8) + '!');
         Check.showOf(y, 0, "ab!?");
         program(y, "the least cost", 8, 3 * 2, 2 * TYPED + ('!' << 8) + '?');
-        ShownOnce z = with("a", "b");
+        ShownOnce z = Check.with("a", "b");
         Check.showOf(z, 0, "a!");
         Check.showOf(z, 1, "b!");
         program(z, "two pieces", 7, 3, TYPED + '!');
     }
 
     private static void paper() {
-        ShownOnce x = with("a1", "b22", "q", "cat 345");
+        ShownOnce x = Check.with("a1", "b22", "q", "cat 345");
         check.due("thing 4", x.paper(4, -1), ShownOnce.BAD);
         check.due("thing -1", x.paper(-1, -1), ShownOnce.BAD);
         check.due("nothing shown", x.paper(0, -1), ShownOnce.NOT);
@@ -171,7 +163,7 @@ public final class ShowingTest {
     }
 
     private static void differs() {
-        ShownOnce x = with("7", "42", "a");
+        ShownOnce x = Check.with("7", "42", "a");
         check.due("thing 3", x.differs(3), ShownOnce.BAD);
         check.due("nothing shown", x.differs(1), ShownOnce.NOT);
         Check.showOf(x, 0, "7");
@@ -181,7 +173,7 @@ public final class ShowingTest {
         check.due("thing -1", x.differs(-1), ShownOnce.BAD);
         Check.showOf(x, 1, "x");
         check.due("nothing fits", x.differs(2), ShownOnce.NONE);
-        ShownOnce y = with("7", "42", "a");
+        ShownOnce y = Check.with("7", "42", "a");
         Check.showOf(y, 0, "77");
         // Of 2402 the first 64.
         check.due("only the nearest count", y.differs(2), NaiveNearest.unlike("7", "77", "a"));
@@ -200,14 +192,14 @@ public final class ShowingTest {
     }
 
     private static void settle() {
-        ShownOnce x = with("7", "a", "42", "42");
+        ShownOnce x = Check.with("7", "a", "42", "42");
         check.due("nothing shown", x.settle(), ShownOnce.NOT);
         Check.showOf(x, 0, "7");
         // 36 of 49 make nothing of a; 27 of 49 make 42 of 42.
         check.due("of like ones the first", x.settle(), 2);
         Check.showOf(x, 2, "4");
         check.due("of those not shown", x.settle() == 2 ? 1 : 0, 0);
-        ShownOnce y = with("7");
+        ShownOnce y = Check.with("7");
         Check.showOf(y, 0, "7");
         check.due("all are shown", y.settle(), ShownOnce.NONE);
         Check.thingOf(y, "8");
@@ -219,7 +211,7 @@ public final class ShowingTest {
     }
 
     private static void odd() {
-        ShownOnce x = with("7", "8", "42", "a", "-");
+        ShownOnce x = Check.with("7", "8", "42", "a", "-");
         check.due("thing 5", x.odd(5), ShownOnce.BAD);
         check.due("nothing shown", x.odd(0), ShownOnce.NOT);
         Check.showOf(x, 0, "7");
@@ -231,18 +223,18 @@ public final class ShowingTest {
         check.due("thing -1", x.odd(-1), ShownOnce.BAD);
         Check.showOf(x, 1, "x");
         check.due("nothing fits", x.odd(0), ShownOnce.NONE);
-        ShownOnce y = with("Ab", "cD", "EF", "gh", "I", "Xy");
+        ShownOnce y = Check.with("Ab", "cD", "EF", "gh", "I", "Xy");
         Check.showOf(y, 0, "Ab");
         Check.showOf(y, 1, "cD");
         check.due("capitals", y.odd(2), 1);
         check.due("small letters", y.odd(3), 1);
         check.due("a capital", y.odd(4), 1);
         check.due("as shown", y.odd(5), 0);
-        ShownOnce z = with("a1", "b22", "q");
+        ShownOnce z = Check.with("a1", "b22", "q");
         Check.showOf(z, 0, "1");
         Check.showOf(z, 1, "22");
         check.due("nothing is made", z.odd(2), 1);
-        ShownOnce w = with("a-b", "cc--dd", "a1b2c3d4e5f6g7h8");
+        ShownOnce w = Check.with("a-b", "cc--dd", "a1b2c3d4e5f6g7h8");
         Check.showOf(w, 0, "a-b");
         Check.showOf(w, 1, "cc--dd");
         check.due("like ones side by side are one", w.odd(1), 0);
@@ -250,7 +242,7 @@ public final class ShowingTest {
     }
 
     private static void slips() {
-        ShownOnce x = with("7", "8", "9", "1");
+        ShownOnce x = Check.with("7", "8", "9", "1");
         check.due("nothing shown", x.slips(), ShownOnce.NOT);
         Check.showOf(x, 0, "7");
         check.due("something fits", x.slips(), 0);
@@ -266,7 +258,7 @@ public final class ShowingTest {
         x.forget(2);
         check.due("one", x.slips(), 8);
         check.due("shown ones stay", x.count(1), 3);
-        ShownOnce y = with("q", "r");
+        ShownOnce y = Check.with("q", "r");
         Check.showOf(y, 1, "1234567890");
         check.due("the only one", y.slips(), 2);
         Check.showOf(y, 0, "1234567890");
