@@ -30,7 +30,7 @@ public final class ShownOnce {
     private int doingCount = 0;
     private final Program[] programs = new Program[MOST_KEPT];
     private int programCount = 0;
-    private final TextReader reader = new TextReader(tape);
+    private final TextReader reader = new TextReader();
     private final Sheet[] sheets = new Sheet[SHEETS];
 
     public ShownOnce() {
@@ -315,7 +315,7 @@ public final class ShownOnce {
     }
 
     public int text() {
-        int faultAt = reader.read();
+        int faultAt = reader.read(tape);
         tape.clear();
         return faultAt >= 0 ? FAULT - faultAt : keepProgram(reader.program);
     }
@@ -1243,15 +1243,12 @@ public final class ShownOnce {
         private static final String KIND_SIGNS = "dwcs", WHICH_SIGNS = "12z";
 
         final Program program = new Program();
-        private final Row tape;
+        private final Row told = new Row(TAPE_BYTES);
         private int at = 0;
 
-        TextReader(Row tape) {
-            this.tape = tape;
-        }
-
         /** The place of the first byte that can't stand there, or -1. */
-        int read() {
+        int read(Row tape) {
+            told.copyOf(tape);
             at = 0;
             program.clear();
             for (int i = 0; i < 3; i++) {
@@ -1278,10 +1275,10 @@ public final class ShownOnce {
 
         /** The next byte that is no blank, where at stays. */
         private int look() {
-            while (at < tape.size && tape.bytes[at] == ' ') {
+            while (at < told.size && told.bytes[at] == ' ') {
                 at++;
             }
-            return at < tape.size ? tape.bytes[at] : AT_END;
+            return at < told.size ? told.bytes[at] : AT_END;
         }
 
         private boolean readPiece() {
@@ -1294,8 +1291,8 @@ public final class ShownOnce {
 
         private boolean readTyped() {
             int bytes = 0;
-            for (int n = 0; n <= 3 && at < tape.size; n++) {
-                int b = tape.bytes[at];
+            for (int n = 0; n <= 3 && at < told.size; n++) {
+                int b = told.bytes[at];
                 if (b == '"') {
                     if (n == 0) {
                         return false;

@@ -300,6 +300,7 @@ public final class DoingTest {
         check.due("turned about", Check.spell(i -> x.run(0, 0, i)), "LEE, A");
         check.due("nothing", Check.spell(i -> x.run(0, 1, i)), null);
         check.due("none goes ahead of no such byte", x.run(0, 1, 50), ShownOnce.NONE);
+        check.due("a number that is not as told", x.run(0, 1, -2), ShownOnce.BAD);
         check.due("35 bytes", Check.spell(i -> x.run(1, 1, i)), "0123456789abcdef---0123456789abcdef");
         check.due("five", Check.spell(i -> x.run(1, 2, i)), "-----");
         check.due("program 2", x.run(2, 0, 0), ShownOnce.BAD);

@@ -142,6 +142,10 @@ public final class ShowingTest {
         Check.showOf(z, 0, "a!");
         Check.showOf(z, 1, "b!");
         program(z, "two pieces", 7, 3, TYPED + '!');
+        ShownOnce w = Check.with("ab cd", "ef gh");
+        Check.showOf(w, 0, "AB-:-CD");
+        Check.showOf(w, 1, "EF-:-GH");
+        program(w, "the greatest cost", 15, 3 * 2 + 1, 3 * TYPED + ('-' << 16) + (':' << 8) + '-', 120 * 3 + 3 * 5 + 1);
     }
 
     private static void paper() {
@@ -239,6 +243,11 @@ public final class ShowingTest {
         Check.showOf(w, 1, "cc--dd");
         check.due("like ones side by side are one", w.odd(1), 0);
         check.due("a longer shape than any shown", w.odd(2), 1);
+        ShownOnce v = Check.with("a1b2c3d4e5f6", "g1h2i3j4k5l", "q1r2s3t4u5v6", "1q1r2s3t4u5v6");
+        Check.showOf(v, 0, "a1b2c3d4e5f6");
+        Check.showOf(v, 1, "g1h2i3j4k5l");
+        check.due("twelve kinds as shown", v.odd(2), 0);
+        check.due("thirteen kinds", v.odd(3), 1);
     }
 
     private static void slips() {
