@@ -884,6 +884,9 @@ public final class ShownOnce {
         }
 
         void add(int start, int piece) {
+            if (start < 0 || start >= STARTS || size >= MOST_PIECES) {
+                return;
+            }
             if (groupOf[start] == 0) {
                 openGroup(start);
             }
@@ -911,14 +914,18 @@ public final class ShownOnce {
             }
         }
 
+        private int groupAt(int start) {
+            return start < 0 || start >= STARTS ? 0 : groupOf[start];
+        }
+
         int waysFrom(int start) {
-            int group = groupOf[start];
+            int group = groupAt(start);
             return group == 0 ? 0 : ways[group];
         }
 
         /** The first piece of a cost that begins there, -1 for none. */
         int headOf(int start, int cost) {
-            int group = groupOf[start];
+            int group = groupAt(start);
             return group == 0 || cost < 3 || cost > 5 ? -1 : heads[3 * group + cost - 3];
         }
 
@@ -1067,10 +1074,10 @@ public final class ShownOnce {
         }
 
         private void addFirst(int piece, int stop) {
-            if (stop == full) {
+            if (stop == full && wholeCount < Lasts.MOST_PIECES) {
                 wholes[wholeCount] = piece;
                 wholeCount++;
-            } else {
+            } else if (stop != full && firstCount < Lasts.MOST_PIECES) {
                 firsts[firstCount] = piece;
                 stops[firstCount] = stop;
                 firstCount++;
