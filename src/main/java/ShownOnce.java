@@ -1170,10 +1170,12 @@ public final class ShownOnce {
                 return;
             }
             int rest = cost - Program.costOf(firsts[i]);
-            for (int j = lasts.headOf(stops[i], rest); j >= 0 && !isRanked(); j = lasts.nextOf(j)) {
+            int j = lasts.headOf(stops[i], rest);
+            for (int n = 0; n < MOST_NEAREST && j >= 0 && !isRanked(); n++) {
                 Program p = nextNearest();
                 p.add(firsts[i]);
                 p.add(lasts.pieceAt(j));
+                j = lasts.nextOf(j);
             }
         }
 
@@ -1183,11 +1185,13 @@ public final class ShownOnce {
                     continue;
                 }
                 int rest = cost - Program.costOf(firsts[i]) - (2 + k);
-                for (int j = lasts.headOf(stops[i] + k * step, rest); j >= 0 && !isRanked(); j = lasts.nextOf(j)) {
+                int j = lasts.headOf(stops[i] + k * step, rest);
+                for (int n = 0; n < MOST_NEAREST && j >= 0 && !isRanked(); n++) {
                     Program p = nextNearest();
                     p.add(firsts[i]);
                     p.add(typedIn(stops[i], k));
                     p.add(lasts.pieceAt(j));
+                    j = lasts.nextOf(j);
                 }
             }
         }

@@ -129,6 +129,24 @@ public final class LanguageTest {
         check.due("imports", imports.toString(), "[java.util.Arrays]");
         check.due("no sign above 127", source.chars().allMatch(c -> c < 128) ? 1 : 0, 1);
         shortMethods(source);
+        boundedLoops(bare);
+    }
+
+    /** Rule 9: the head of each loop has a counter and what it is held against; a while may count in its body. */
+    private static void boundedLoops(String bare) {
+        Matcher loop = Pattern.compile("\\b(for|while) \\((.*)\\) \\{").matcher(bare);
+        int loops = 0;
+        while (loop.find()) {
+            String head = loop.group(2);
+            boolean counted = loop.group(1).equals("while") || head.matches("int \\w+ = [^;]+;[^;]+; \\w+(\\+\\+|--)");
+            check.due("bound of " + head, counted && head.matches(".*\\w (<|<=|>|>=) \\w.*") ? 1 : 0, 1);
+            loops++;
+        }
+        Matcher word = Pattern.compile("\\b(for|while|do)\\b").matcher(bare);
+        while (word.find()) {
+            loops--;
+        }
+        check.due("loops whose head was not found", loops, 0);
     }
 
     /** A method's lines stand one step deeper than its head, which ends with a brace. */
