@@ -239,26 +239,13 @@ public final class ShownOnce {
         }
         int touched = 0;
         int done = 0;
-        int left = n;
-        for (int i = 0; i < thingCount && left > 0; i++) {
-            Thing x = things[i];
-            if (x.state != UNTOUCHED) {
-                continue;
-            }
-            left--;
-            touched |= 1 << i;
-            if (makesOddEnd(x)) {
-                x.state = ASIDE;
-            } else {
-                x.state = DONE;
-                x.end.copyOf(scratch);
-                done++;
+        for (int i = 0; i < thingCount && Integer.bitCount(touched) < n; i++) {
+            if (things[i].state == UNTOUCHED) {
+                touched |= 1 << i;
+                done += becomesDone(things[i]) ? 1 : 0;
             }
         }
-        if (doingCount < MOST_CALLS) {
-            doings[doingCount] = touched;
-            doingCount++;
-        }
+        rememberDoing(touched);
         return done;
     }
 
@@ -554,6 +541,24 @@ public final class ShownOnce {
             }
         }
         return true;
+    }
+
+    /** Or else it is set aside. */
+    private boolean becomesDone(Thing x) {
+        if (makesOddEnd(x)) {
+            x.state = ASIDE;
+            return false;
+        }
+        x.state = DONE;
+        x.end.copyOf(scratch);
+        return true;
+    }
+
+    private void rememberDoing(int touched) {
+        if (doingCount < MOST_CALLS) {
+            doings[doingCount] = touched;
+            doingCount++;
+        }
     }
 
     private int keepProgram(Program p) {
@@ -929,12 +934,13 @@ public final class ShownOnce {
             return group == 0 || cost < 3 || cost > 5 ? -1 : heads[3 * group + cost - 3];
         }
 
+        /** The next one of like start and cost, -1 for none. */
         int nextOf(int i) {
-            return nexts[i];
+            return i < 0 || i >= size ? -1 : nexts[i];
         }
 
         int pieceAt(int i) {
-            return pieces[i];
+            return i < 0 || i >= size ? NONE : pieces[i];
         }
     }
 
